@@ -514,7 +514,7 @@ public final class MetreFractions {
         void setRatio(Fraction target, long above, long below) {
             leftAbove.setMagnitude(above);
             leftBelow.setMagnitude(below);
-            target.sign = above == 0 ? 0 : above < 0 == below < 0 ? 1 : -1;
+            target.sign = above == 0 ? 0 : (above < 0) == (below < 0) ? 1 : -1;
             setReduced(target, leftAbove, leftBelow);
         }
 
@@ -748,6 +748,7 @@ public final class MetreFractions {
             }
         }
 
+        /** Leaves the scaled remainder untrimmed. */
         private void divideScaled(int shift) {
             int size = divisor.size;
             quotient.grow(shift + 1);
@@ -762,10 +763,9 @@ public final class MetreFractions {
             quotient.size = shift + 1;
             quotient.trim();
             remainder.size = size;
-            remainder.trim();
         }
 
-        /** The quotient's limb from the leading limbs, the remainder's top one being at this place: right or one too many. */
+        /** The quotient's next limb, by the leading limbs from this place down: right, or one too many. */
         private int guessLimb(int place) {
             long top = divisor.limbs[divisor.size - 1];
             long next = divisor.limbs[divisor.size - 2];
@@ -785,7 +785,7 @@ public final class MetreFractions {
             return (int) guess;
         }
 
-        /** Takes the divisor that many times from the remainder, from this place on; true if that was too much. */
+        /** Takes the divisor many times from the remainder, from this place on; true if that was too much. */
         private boolean subtract(int place, long many) {
             long carry = 0;
             for (int i = 0; i < divisor.size; i++) {
@@ -798,13 +798,11 @@ public final class MetreFractions {
                 }
                 remainder.limbs[place + i] = (int) limb;
             }
-            long top = remainder.limbs[place + divisor.size] - carry;
-            boolean tooMuch = top < 0;
-            remainder.limbs[place + divisor.size] = (int) (tooMuch ? top + BASE : top);
-            return tooMuch;
+            // The limb on top comes to 0 and is not read again, so it stays as it was.
+            return remainder.limbs[place + divisor.size] < carry;
         }
 
-        /** The carry out of the top cancels the borrow that the subtraction left there. */
+        /** Gives the divisor back once; the carry out of the top cancels what was too much there. */
         private void giveBack(int place) {
             long carry = 0;
             for (int i = 0; i < divisor.size; i++) {
@@ -812,8 +810,6 @@ public final class MetreFractions {
                 carry = limb / BASE;
                 remainder.limbs[place + i] = (int) (limb - carry * BASE);
             }
-            long top = remainder.limbs[place + divisor.size] + carry;
-            remainder.limbs[place + divisor.size] = (int) (top % BASE);
         }
     }
 

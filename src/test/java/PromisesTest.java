@@ -289,9 +289,13 @@ public final class PromisesTest {
         noSuch("order(0, 99)", () -> x.order(0, 99));
         noSuch("order(-1, 0)", () -> x.order(-1, 0));
         int most = ten(890, 1);
-        int small = x.add(most, x.over(x.value(1, 1, 1), x.value(Long.MAX_VALUE, 1, 0)), false);
         due("long ones", () -> x.order(most, x.add(most, third, false)), -1);
-        due("a long one and a failed one", () -> small, LONG);
+        int one = x.value(1, 1, 1);
+        int more = x.add(most, one, false);
+        int near = x.over(most, more);
+        int nearer = x.over(more, x.add(more, one, false));
+        due("long ones above and below", () -> x.order(near, nearer), -1);
+        due("the other way", () -> x.order(nearer, near), 1);
     }
 
     // ---- promise 7
@@ -308,8 +312,9 @@ public final class PromisesTest {
             "0/1", "1/1", "0/1", "0/1", "-1/1", "0/1", "0/1", "0/1"
         };
         int[] numbers = {
-            x.value(5, 2, 1), x.value(-5, 2, 1), x.value(3, 2, 1), x.value(-3, 2, 1), x.value(7, 3, 1), x.value(-7, 3, 1),
-            x.value(8, 3, 1), x.value(-8, 3, 1), x.value(4, 1, 1), x.value(1, 4, 1), x.value(-1, 4, 1)
+            x.value(5, 2, 1), x.value(-5, 2, 1), x.value(3, 2, 1), x.value(-3, 2, 1),
+            x.value(7, 3, 1), x.value(-7, 3, 1), x.value(8, 3, 1), x.value(-8, 3, 1),
+            x.value(4, 1, 1), x.value(1, 4, 1), x.value(-1, 4, 1)
         };
         for (int i = 0; i < numbers.length; i++) {
             for (int rule = 0; rule < 4; rule++) {
@@ -632,29 +637,26 @@ public final class PromisesTest {
         int row = x.row();
         int wide = ten(450, 1);
         int tall = ten(449, 1);
-        int deep = x.times(tall, x.value(-1, 1, 0));
-        int zero = x.value(0, 1, 1);
-        x.corner(row, zero, tall);
+        x.corner(row, x.value(0, 1, 1), tall);
         x.corner(row, wide, tall);
         due("900 digits", () -> x.told(x.area(row), 1), 900);
         x.corner(row, x.times(wide, x.value(10, 1, 0)), x.times(tall, x.value(10, 1, 0)));
         due("901 digits", () -> x.area(row), LONG);
-        int back = x.row();
-        int ten = x.times(wide, x.value(10, 1, 0));
-        int twenty = x.times(wide, x.value(20, 1, 0));
-        x.corner(back, zero, tall);
-        x.corner(back, ten, tall);
-        x.corner(back, x.add(ten, x.value(1, 1, 1), false), deep);
-        x.corner(back, x.add(twenty, x.value(1, 1, 1), false), deep);
-        due("LONG on the way, 0 in the end", () -> x.area(back), LONG);
-        int once = x.row();
-        int nine = x.times(wide, x.value(9, 1, 0));
-        int eighteen = x.times(wide, x.value(18, 1, 0));
-        x.corner(once, zero, tall);
-        x.corner(once, nine, tall);
-        x.corner(once, x.add(nine, x.value(1, 1, 1), false), deep);
-        x.corner(once, x.add(eighteen, x.value(1, 1, 1), false), deep);
-        reads(x.area(once), "0/1 [2]");
+        due("901 digits on the way, 0 in the end", () -> x.area(thereAndBack(wide, tall, 10)), LONG);
+        reads(x.area(thereAndBack(wide, tall, 9)), "0/1 [2]");
+    }
+
+    /** A row that is so many times wide at a height, then as wide as far below 0. */
+    private int thereAndBack(int wide, int tall, int many) {
+        int row = x.row();
+        int deep = x.times(tall, x.value(-1, 1, 0));
+        int turn = x.times(wide, x.value(many, 1, 0));
+        int behind = x.add(turn, x.value(1, 1, 1), false);
+        x.corner(row, x.value(0, 1, 1), tall);
+        x.corner(row, turn, tall);
+        x.corner(row, behind, deep);
+        x.corner(row, x.add(behind, turn, false), deep);
+        return row;
     }
 
     // ---- promise 16

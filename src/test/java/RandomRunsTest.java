@@ -63,10 +63,10 @@ public final class RandomRunsTest {
             case 5 -> pair.times(a, b);
             case 6 -> pair.over(a, b);
             case 7 -> pair.order(a, b);
-            case 8 -> pair.round(a, random.nextInt(20) == 0 ? random.nextInt(7) - 1 : random.nextInt(4), someSteps(random));
+            case 8 -> pair.round(a, someRule(random), someSteps(random));
             case 9 -> pair.prism(a, b, c, someNumber(random, values));
             case 10 -> pair.told(a, random.nextInt(6) - 1);
-            case 11, 12 -> pair.digit(a, random.nextInt(10) == 0 ? random.nextInt() : random.nextInt(2), random.nextInt(12) - 1);
+            case 11, 12 -> pair.digit(a, somePart(random), random.nextInt(12) - 1);
             case 13 -> {
                 if (random.nextInt(12) == 0) {
                     pair.clear();
@@ -89,6 +89,14 @@ public final class RandomRunsTest {
 
     private static int someUnit(Random random, int units) {
         return random.nextInt(20) == 0 ? random.nextInt(17) - 8 : random.nextInt(units);
+    }
+
+    private static int someRule(Random random) {
+        return random.nextInt(20) == 0 ? random.nextInt(7) - 1 : random.nextInt(4);
+    }
+
+    private static int somePart(Random random) {
+        return random.nextInt(10) == 0 ? random.nextInt() : random.nextInt(2);
     }
 
     private static int someSteps(Random random) {
