@@ -473,7 +473,7 @@ public final class MetreFractions {
         }
 
         static Fraction ofLowestTerms(int above, int below) {
-            Fraction made = new Fraction(1, 1);
+            Fraction made = new Fraction(Natural.LONG_LIMBS, Natural.LONG_LIMBS);
             made.sign = above == 0 ? 0 : 1;
             made.above.setMagnitude(above);
             made.below.setMagnitude(below);
