@@ -1,4 +1,5 @@
 import java.util.function.LongSupplier;
+import java.util.function.Supplier;
 
 /** Counts and prints the answers of a test that are not as due. */
 final class Check {
@@ -24,16 +25,20 @@ final class Check {
         same(what, answer(call), "throws." + want.getSimpleName());
     }
 
-    boolean same(String what, String got, String want) {
+    void same(String what, String got, String want) {
+        same(() -> what, got, want);
+    }
+
+    /** What was asked is put in words only if the answer is wrong. */
+    void same(Supplier<String> what, String got, String want) {
         asked++;
         if (got.equals(want)) {
-            return true;
+            return;
         }
         wrong++;
         if (wrong <= MOST_PRINTED) {
-            System.out.println(what + " answered " + got + ", due is " + want);
+            System.out.println(what.get() + " answered " + got + ", due is " + want);
         }
-        return false;
     }
 
     void end(String test) {

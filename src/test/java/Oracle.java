@@ -3,7 +3,7 @@ import java.util.ArrayList;
 import java.util.List;
 
 /** The document once more, over BigInteger and as plain as can be: random runs are held against it. */
-final class Oracle {
+final class Oracle implements Face {
     private static final int UNLIKE = -2;
     private static final int FULL = -3;
     private static final int LONG = -4;
@@ -77,7 +77,8 @@ final class Oracle {
         return weights.size();
     }
 
-    int value(long above, long below, int unit) {
+    @Override
+    public int value(long above, long below, int unit) {
         if (below == 0) {
             throw new ArithmeticException();
         }
@@ -87,7 +88,8 @@ final class Oracle {
         return make(Ratio.of(above, below), unit);
     }
 
-    int add(int a, int b, boolean less) {
+    @Override
+    public int add(int a, int b, boolean less) {
         Value x = get(a);
         Value y = get(b);
         if (x.unit != y.unit) {
@@ -96,13 +98,15 @@ final class Oracle {
         return make(less ? x.amount.minus(y.amount) : x.amount.plus(y.amount), x.unit);
     }
 
-    int times(int a, int b) {
+    @Override
+    public int times(int a, int b) {
         Value x = get(a);
         Value y = get(b);
         return make(x.amount.by(y.amount), x.unit + y.unit);
     }
 
-    int over(int a, int b) {
+    @Override
+    public int over(int a, int b) {
         Value x = get(a);
         Value y = get(b);
         if (y.amount.above.signum() == 0) {
@@ -111,13 +115,15 @@ final class Oracle {
         return make(x.amount.over(y.amount), x.unit - y.unit);
     }
 
-    int order(int a, int b) {
+    @Override
+    public int order(int a, int b) {
         Value x = get(a);
         Value y = get(b);
         return x.unit != y.unit ? UNLIKE : x.amount.against(y.amount);
     }
 
-    int round(int a, int rule, int steps) {
+    @Override
+    public int round(int a, int rule, int steps) {
         Value x = get(a);
         if (rule < 0 || rule > 3 || steps < 1 || steps > 1000000000) {
             throw new IllegalArgumentException();
@@ -136,7 +142,8 @@ final class Oracle {
         return make(Ratio.of(whole, BigInteger.valueOf(steps)), x.unit);
     }
 
-    int prism(int a, int b, int c, int h) {
+    @Override
+    public int prism(int a, int b, int c, int h) {
         Value x = get(a);
         Value y = get(b);
         Value z = get(c);
@@ -148,7 +155,8 @@ final class Oracle {
         return make(sum.by(high.amount).over(Ratio.of(6, 1)), x.unit + high.unit);
     }
 
-    int told(int a, int what) {
+    @Override
+    public int told(int a, int what) {
         Value x = get(a);
         return switch (what) {
             case 0 -> x.amount.above.signum();
@@ -159,7 +167,8 @@ final class Oracle {
         };
     }
 
-    int digit(int a, int part, int i) {
+    @Override
+    public int digit(int a, int part, int i) {
         Value x = get(a);
         if (i < 0) {
             throw new IndexOutOfBoundsException();
@@ -174,14 +183,16 @@ final class Oracle {
         return text.charAt(text.length() - 1 - i) - '0';
     }
 
-    int clear() {
+    @Override
+    public int clear() {
         int before = values.size();
         values.clear();
         rows.clear();
         return before;
     }
 
-    int row() {
+    @Override
+    public int row() {
         if (rows.size() == 8) {
             return FULL;
         }
@@ -189,7 +200,8 @@ final class Oracle {
         return rows.size() - 1;
     }
 
-    int corner(int row, int place, int height) {
+    @Override
+    public int corner(int row, int place, int height) {
         List<Corner> line = getRow(row);
         Corner made = new Corner(get(place), get(height));
         if (!line.isEmpty()) {
@@ -208,7 +220,8 @@ final class Oracle {
         return line.size();
     }
 
-    int at(int row, int place) {
+    @Override
+    public int at(int row, int place) {
         List<Corner> line = getRow(row);
         Value where = get(place);
         if (line.isEmpty()) {
@@ -237,7 +250,8 @@ final class Oracle {
         return OUTSIDE;
     }
 
-    int area(int row) {
+    @Override
+    public int area(int row) {
         List<Corner> line = getRow(row);
         if (line.size() < 2) {
             return OUTSIDE;
@@ -259,7 +273,8 @@ final class Oracle {
         return onTheWay ? LONG : make(sum, unit);
     }
 
-    int weight(int w) {
+    @Override
+    public int weight(int w) {
         if (w < 1 || w > 1000000000) {
             throw new IllegalArgumentException();
         }
@@ -270,13 +285,15 @@ final class Oracle {
         return weights.size();
     }
 
-    int noWeights() {
+    @Override
+    public int noWeights() {
         int before = weights.size();
         weights.clear();
         return before;
     }
 
-    long share(long whole, int k) {
+    @Override
+    public long share(long whole, int k) {
         if (k < 0 || k >= weights.size()) {
             throw new IndexOutOfBoundsException();
         }

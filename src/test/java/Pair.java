@@ -1,15 +1,12 @@
-import java.util.function.LongSupplier;
+import java.util.Arrays;
+import java.util.function.ToLongFunction;
 
-/** A new object and a new oracle, that get the same calls: up to the 512 of which the document speaks. */
-final class Pair {
-    static final int MOST_CALLS = 512;
-    static final long NONE = Long.MIN_VALUE;
-
+/** A new object and a new oracle, that get the same calls. */
+final class Pair implements Face {
     private final String run;
     private final Check check;
-    private final MetreFractions subject = new MetreFractions();
+    final Counted subject = new Counted();
     final Oracle oracle = new Oracle();
-    private int calls = 0;
 
     Pair(String run, Check check) {
         this.run = run;
@@ -17,91 +14,99 @@ final class Pair {
     }
 
     int callsLeft() {
-        return MOST_CALLS - calls;
+        return subject.callsLeft();
     }
 
-    /** Asks both, and answers what is due, or NONE if an exception is. */
-    private long both(String call, LongSupplier got, LongSupplier want) {
-        if (calls == MOST_CALLS) {
-            throw new IllegalStateException(run + " has too many calls");
-        }
-        calls++;
-        String due = Check.answer(want);
-        check.same(run + ", call " + calls + ", " + call, Check.answer(got), due);
-        return due.startsWith("throws.") ? NONE : Long.parseLong(due);
+    /** Asks both, and answers what is due, or 0 if an exception is. */
+    private long both(ToLongFunction<Face> call, String name, long... arguments) {
+        String got = Check.answer(() -> call.applyAsLong(subject));
+        String due = Check.answer(() -> call.applyAsLong(oracle));
+        check.same(() -> run + ", call " + subject.calls() + ", " + name + Arrays.toString(arguments), got, due);
+        return due.startsWith("throws.") ? 0 : Long.parseLong(due);
     }
 
-    int value(long above, long below, int unit) {
-        return (int) both("value(" + above + ", " + below + ", " + unit + ")",
-            () -> subject.value(above, below, unit), () -> oracle.value(above, below, unit));
+    @Override
+    public int value(long above, long below, int unit) {
+        return (int) both(x -> x.value(above, below, unit), "value", above, below, unit);
     }
 
-    int add(int a, int b, boolean less) {
-        return (int) both("add(" + a + ", " + b + ", " + less + ")",
-            () -> subject.add(a, b, less), () -> oracle.add(a, b, less));
+    @Override
+    public int add(int a, int b, boolean less) {
+        return (int) both(x -> x.add(a, b, less), less ? "add, less, " : "add", a, b);
     }
 
-    int times(int a, int b) {
-        return (int) both("times(" + a + ", " + b + ")", () -> subject.times(a, b), () -> oracle.times(a, b));
+    @Override
+    public int times(int a, int b) {
+        return (int) both(x -> x.times(a, b), "times", a, b);
     }
 
-    int over(int a, int b) {
-        return (int) both("over(" + a + ", " + b + ")", () -> subject.over(a, b), () -> oracle.over(a, b));
+    @Override
+    public int over(int a, int b) {
+        return (int) both(x -> x.over(a, b), "over", a, b);
     }
 
-    int order(int a, int b) {
-        return (int) both("order(" + a + ", " + b + ")", () -> subject.order(a, b), () -> oracle.order(a, b));
+    @Override
+    public int order(int a, int b) {
+        return (int) both(x -> x.order(a, b), "order", a, b);
     }
 
-    int round(int a, int rule, int steps) {
-        return (int) both("round(" + a + ", " + rule + ", " + steps + ")",
-            () -> subject.round(a, rule, steps), () -> oracle.round(a, rule, steps));
+    @Override
+    public int round(int a, int rule, int steps) {
+        return (int) both(x -> x.round(a, rule, steps), "round", a, rule, steps);
     }
 
-    int prism(int a, int b, int c, int h) {
-        return (int) both("prism(" + a + ", " + b + ", " + c + ", " + h + ")",
-            () -> subject.prism(a, b, c, h), () -> oracle.prism(a, b, c, h));
+    @Override
+    public int prism(int a, int b, int c, int h) {
+        return (int) both(x -> x.prism(a, b, c, h), "prism", a, b, c, h);
     }
 
-    int told(int a, int what) {
-        return (int) both("told(" + a + ", " + what + ")", () -> subject.told(a, what), () -> oracle.told(a, what));
+    @Override
+    public int told(int a, int what) {
+        return (int) both(x -> x.told(a, what), "told", a, what);
     }
 
-    int digit(int a, int part, int i) {
-        return (int) both("digit(" + a + ", " + part + ", " + i + ")",
-            () -> subject.digit(a, part, i), () -> oracle.digit(a, part, i));
+    @Override
+    public int digit(int a, int part, int i) {
+        return (int) both(x -> x.digit(a, part, i), "digit", a, part, i);
     }
 
-    int clear() {
-        return (int) both("clear()", subject::clear, oracle::clear);
+    @Override
+    public int clear() {
+        return (int) both(Face::clear, "clear");
     }
 
-    int row() {
-        return (int) both("row()", subject::row, oracle::row);
+    @Override
+    public int row() {
+        return (int) both(Face::row, "row");
     }
 
-    int corner(int row, int place, int height) {
-        return (int) both("corner(" + row + ", " + place + ", " + height + ")",
-            () -> subject.corner(row, place, height), () -> oracle.corner(row, place, height));
+    @Override
+    public int corner(int row, int place, int height) {
+        return (int) both(x -> x.corner(row, place, height), "corner", row, place, height);
     }
 
-    int at(int row, int place) {
-        return (int) both("at(" + row + ", " + place + ")", () -> subject.at(row, place), () -> oracle.at(row, place));
+    @Override
+    public int at(int row, int place) {
+        return (int) both(x -> x.at(row, place), "at", row, place);
     }
 
-    int area(int row) {
-        return (int) both("area(" + row + ")", () -> subject.area(row), () -> oracle.area(row));
+    @Override
+    public int area(int row) {
+        return (int) both(x -> x.area(row), "area", row);
     }
 
-    int weight(int w) {
-        return (int) both("weight(" + w + ")", () -> subject.weight(w), () -> oracle.weight(w));
+    @Override
+    public int weight(int w) {
+        return (int) both(x -> x.weight(w), "weight", w);
     }
 
-    int noWeights() {
-        return (int) both("noWeights()", subject::noWeights, oracle::noWeights);
+    @Override
+    public int noWeights() {
+        return (int) both(Face::noWeights, "noWeights");
     }
 
-    long share(long whole, int k) {
-        return both("share(" + whole + ", " + k + ")", () -> subject.share(whole, k), () -> oracle.share(whole, k));
+    @Override
+    public long share(long whole, int k) {
+        return both(x -> x.share(whole, k), "share", whole, k);
     }
 }

@@ -8,7 +8,7 @@ public final class PromisesTest {
     private static final int OUTSIDE = MetreFractions.OUTSIDE;
 
     private final Check check = new Check();
-    private MetreFractions x = new MetreFractions();
+    private Counted x = new Counted();
     private int promise = 0;
 
     public static void main(String[] args) {
@@ -48,7 +48,7 @@ public final class PromisesTest {
 
     private void begin(int number) {
         promise = number;
-        x = new MetreFractions();
+        x = new Counted();
     }
 
     private void due(String call, LongSupplier got, long want) {
@@ -117,7 +117,7 @@ public final class PromisesTest {
         due("value", () -> x.value(5, 1, 0), 0);
         due("row", () -> x.row(), 0);
         due("weight", () -> x.weight(1), 1);
-        MetreFractions other = new MetreFractions();
+        Counted other = new Counted();
         due("another object's clear", () -> other.clear(), 0);
         due("another object's noWeights", () -> other.noWeights(), 0);
     }

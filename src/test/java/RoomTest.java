@@ -5,8 +5,9 @@ import java.lang.management.ManagementFactory;
  * sixteen, so that eight million bytes are fewer than 600,000 objects and 7.3 million elements.
  */
 public final class RoomTest {
-    private static final int CALLS = 512;
+    private static final int NEW_OBJECTS = 512;
     private static final long MOST_BYTES = 8_000_000;
+    private static final int GROWN_CALLS = 30;
 
     private final com.sun.management.ThreadMXBean meter =
         (com.sun.management.ThreadMXBean) ManagementFactory.getThreadMXBean();
@@ -22,13 +23,13 @@ public final class RoomTest {
     }
 
     private interface Run {
-        void go(MetreFractions x);
+        void go(Counted x);
     }
 
     private void stays(String what, Run run) {
-        run.go(new MetreFractions());
+        run.go(new Counted());
         long before = meter.getThreadAllocatedBytes(Thread.currentThread().getId());
-        run.go(new MetreFractions());
+        run.go(new Counted());
         long made = meter.getThreadAllocatedBytes(Thread.currentThread().getId()) - before;
         System.out.println(what + ": " + made + " bytes");
         check.same(what, made < MOST_BYTES ? "little" : made + " bytes", "little");
@@ -36,14 +37,14 @@ public final class RoomTest {
 
     private void newObjects() {
         stays("512 new objects", x -> {
-            for (int i = 0; i < CALLS; i++) {
+            for (int i = 0; i < NEW_OBJECTS; i++) {
                 new MetreFractions().row();
             }
         });
     }
 
     /** A value of some 870 digits above and below, another one for each seed. */
-    private static int grown(MetreFractions x, long seed) {
+    private static int grown(Face x, long seed) {
         int made = x.value(seed, seed + 1, 0);
         for (int i = 1; i <= 7; i++) {
             made = x.times(made, x.value(seed + 5L * i, seed + 5L * i + 2, 0));
@@ -56,8 +57,8 @@ public final class RoomTest {
         stays("long sums", x -> {
             int a = grown(x, 1000000000000000003L);
             int b = x.add(a, x.value(1, 1, 0), false);
-            for (int i = 0; i < CALLS; i++) {
-                if (x.add(a, b, i % 2 == 0) == MetreFractions.FULL) {
+            while (x.callsLeft() > 0) {
+                if (x.add(a, b, x.callsLeft() % 2 == 0) == MetreFractions.FULL && x.callsLeft() > GROWN_CALLS) {
                     x.clear();
                     a = grown(x, 1000000000000000003L);
                     b = x.add(a, x.value(1, 1, 0), false);
@@ -75,9 +76,8 @@ public final class RoomTest {
             x.corner(row, one, other);
             x.corner(row, other, one);
             check.due("a height between", () -> x.at(row, between), MetreFractions.LONG);
-            for (int i = 0; i < CALLS / 2; i++) {
-                x.at(row, between);
-                x.at(row, i % 2 == 0 ? one : other);
+            while (x.callsLeft() > 0) {
+                x.at(row, x.callsLeft() % 2 == 0 ? between : x.callsLeft() % 4 == 1 ? one : other);
             }
         });
     }
@@ -95,7 +95,7 @@ public final class RoomTest {
                 place = x.add(place, step, false);
             }
             check.due("an area's sign", () -> x.told(x.area(row), 0), 1);
-            for (int i = 0; i < CALLS; i++) {
+            while (x.callsLeft() > 0) {
                 x.area(row);
             }
         });
