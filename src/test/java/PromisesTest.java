@@ -67,36 +67,13 @@ public final class PromisesTest {
         check.thrown("promise " + promise + ": " + call, got, IllegalArgumentException.class);
     }
 
-    /** A value as it can be read: -3/2 [1]. */
-    private String read(int a) {
-        StringBuilder text = new StringBuilder(x.told(a, 0) < 0 ? "-" : "");
-        for (int i = x.told(a, 1) - 1; i >= 0; i--) {
-            text.append(x.digit(a, 0, i));
-        }
-        text.append('/');
-        for (int i = x.told(a, 2) - 1; i >= 0; i--) {
-            text.append(x.digit(a, 1, i));
-        }
-        return text.append(" [").append(x.told(a, 3)).append(']').toString();
-    }
-
     private void reads(int a, String want) {
-        check.same("promise " + promise + ": value " + a, a < 0 ? Integer.toString(a) : read(a), want);
+        check.same("promise " + promise + ": value " + a, a < 0 ? Integer.toString(a) : Cases.read(x, a), want);
     }
 
-    /** Ten to this power, as a number of this unit. */
+    /** Ten to this power, of this unit. */
     private int ten(int power, int unit) {
-        int square = x.value(10, 1, 0);
-        int made = x.value(1, 1, unit);
-        for (int rest = power; rest > 0; rest /= 2) {
-            if (rest % 2 == 1) {
-                made = x.times(made, square);
-            }
-            if (rest > 1) {
-                square = x.times(square, square);
-            }
-        }
-        return made;
+        return States.of(x, States.ten(x, power), unit);
     }
 
     private void fill() {

@@ -12,6 +12,9 @@ public final class RandomRunsTest {
             test.lines(seed);
             test.shares(seed);
         }
+        for (int seed = 0; seed < 100; seed++) {
+            test.limbEdges(seed);
+        }
         test.check.end("RandomRunsTest");
     }
 
@@ -174,13 +177,43 @@ public final class RandomRunsTest {
         return switch (random.nextInt(6)) {
             case 0 -> pair.times(a, b);
             case 1, 2 -> pair.over(a, b);
-            case 3 -> pair.round(a, random.nextInt(4), 1 + random.nextInt(1000000000));
+            case 3 -> pair.round(a, random.nextInt(4), random.nextBoolean() ? 1 : 1 + random.nextInt(1000000000));
             case 4 -> pair.prism(a, b, pool[random.nextInt(count)], pool[random.nextInt(count)]);
             default -> {
                 pair.order(a, b);
                 yield pair.add(a, b, random.nextBoolean());
             }
         };
+    }
+
+    /** Numbers near powers of ten, whose limbs are full or empty: what is carried there goes far. */
+    private void limbEdges(int seed) {
+        Random random = new Random(4000 + seed);
+        Pair pair = pair("limb edges", seed);
+        int[] pool = new int[24];
+        int count = 0;
+        for (int i = 0; i < 4; i++) {
+            int made = nearTen(pair, random);
+            if (made >= 0) {
+                pool[count++] = made;
+            }
+        }
+        while (pair.callsLeft() > 130) {
+            int made = combined(pair, random, pool, count);
+            if (made >= 0) {
+                pool[count < pool.length ? count++ : random.nextInt(count)] = made;
+            }
+        }
+        readDigits(pair, random, 200);
+    }
+
+    private static int nearTen(Pair pair, Random random) {
+        int odd = random.nextInt(3) == 0 ? random.nextInt(9) : 0;
+        int ten = States.ten(pair, 9 * (1 + random.nextInt(48)) + odd);
+        int small = random.nextBoolean()
+            ? pair.value(random.nextInt(5) - 2, 1, 0) : States.ten(pair, 9 * random.nextInt(40));
+        int made = pair.add(ten, small, random.nextBoolean());
+        return random.nextInt(3) > 0 ? made : pair.times(made, pair.value(random.nextInt(2000) - 1000, 1, 0));
     }
 
     /** Corners on one long straight line: heights between them are short though what leads there is long. */
